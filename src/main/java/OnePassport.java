@@ -83,7 +83,7 @@ public final class OnePassport {
         }
         family.copyFrom(draft);
         walk.restart();
-        search.forget();
+        search.beginFamily();
         return family.lines;
     }
 
@@ -357,7 +357,7 @@ public final class OnePassport {
             return NONE;
         }
         Row row = search.rowOf(search.fewest);
-        return row.skip(n) == n ? row.over() : NONE;
+        return row.skip(n) == n ? row.overNow() : NONE;
     }
 
     public int worst() {
@@ -370,9 +370,9 @@ public final class OnePassport {
         Row row = search.rowOf(search.fewest);
         int goal = family.goal();
         int worst = 0;
-        int most = Integer.bitCount(row.over() ^ goal);
+        int most = Integer.bitCount(row.overNow() ^ goal);
         for (int n = 1; n <= Graph.MOST_STATES && row.take() != NONE; n++) {
-            int wrong = Integer.bitCount(row.over() ^ goal);
+            int wrong = Integer.bitCount(row.overNow() ^ goal);
             if (wrong > most) {
                 most = wrong;
                 worst = n;
@@ -506,7 +506,7 @@ public final class OnePassport {
         ledger.open();
         for (int i = 0; i < slots.size[slot]; i++) {
             int only = i == place ? 1 << person : family.everyone();
-            ledger.enter(family, search.rulesNow(), (int) slots.numbers[slot][i], only);
+            ledger.enter(family, search.rules, (int) slots.numbers[slot][i], only);
         }
     }
 
@@ -571,7 +571,7 @@ public final class OnePassport {
         }
         Row row = search.rowOf(search.safest);
         row.skip(caught);
-        return row.over();
+        return row.overNow();
     }
 
     public int luck(int seed, int n) {
@@ -677,7 +677,7 @@ public final class OnePassport {
         }
         family.copyFrom(imageFamilies[k]);
         walk.copyFrom(imageWalks[k]);
-        search.forget();
+        search.beginFamily();
         return 0;
     }
 
@@ -1037,10 +1037,10 @@ public final class OnePassport {
 
         /** Who may cross at a post that remembers one (or NONE), stamps aside. */
         int adultsBehind(int last, int post) {
-            int bits = everyone() & ~children();
-            for (int person = 0; person < persons && last != NONE; person++) {
-                if (Math.abs(nose[person] - nose[last]) > keen[post]) {
-                    bits &= ~(1 << person);
+            int bits = 0;
+            for (int person = 0; person < persons; person++) {
+                if (child[person] == 0 && (last == NONE || Math.abs(nose[person] - nose[last]) <= keen[post])) {
+                    bits |= 1 << person;
                 }
             }
             return bits;
@@ -1405,7 +1405,7 @@ public final class OnePassport {
             size = 0;
             edgeCount = 0;
             number(Rules.beginning());
-            for (int i = 0; i < size; i++) {
+            for (int i = 0; i < size && i < MOST_STATES; i++) {
                 int n = rules.list(stateAt[i]);
                 for (int k = 0; k < n; k++) {
                     link(number(rules.states[k]), rules.acts[k]);
@@ -1616,7 +1616,7 @@ public final class OnePassport {
             return taken;
         }
 
-        int over() {
+        int overNow() {
             return graph.overAt(at);
         }
     }
@@ -1627,18 +1627,18 @@ public final class OnePassport {
 
         int size;
         final int[] found = new int[MOST_STATES];
-        private final int[] turnOf = new int[Rules.STATES];
-        private int turn;
+        private final long[] isFound = new long[Rules.STATES / 64];
 
         private void begin(int start) {
-            turn++;
+            Arrays.fill(isFound, 0);
             size = 0;
             add(start);
         }
 
         private void add(int state) {
-            if (turnOf[state] != turn && size < MOST_STATES) {
-                turnOf[state] = turn;
+            long bit = 1L << (state & 63);
+            if ((isFound[state / 64] & bit) == 0 && size < MOST_STATES) {
+                isFound[state / 64] |= bit;
                 found[size] = state;
                 size++;
             }
@@ -1653,14 +1653,14 @@ public final class OnePassport {
 
         void fill(Rules rules, int start) {
             begin(start);
-            for (int i = 0; i < size; i++) {
+            for (int i = 0; i < size && i < MOST_STATES; i++) {
                 addBehind(rules, found[i]);
             }
         }
 
         boolean reaches(Rules rules, int start, int goal) {
             begin(start);
-            for (int i = 0; i < size; i++) {
+            for (int i = 0; i < size && i < MOST_STATES; i++) {
                 if (Rules.overIn(found[i]) == goal) {
                     return true;
                 }
@@ -1679,14 +1679,13 @@ public final class OnePassport {
         private final Family family;
         private final Walk walk;
         private final Family changed = new Family();
-        private final Rules rules = new Rules();
+        final Rules rules = new Rules();
         private final Rules otherRules = new Rules();
         private final Graph graph = new Graph();
         private final Flood flood = new Flood();
         private final Row row = new Row(graph);
         private final int[] soonest = new int[1 << MOST_PERSONS];
         private int soonestFrom = NONE;
-        private boolean rulesKnown;
         private boolean graphBuilt;
         private int stateCount = NONE;
         private int hopefulCount = NONE;
@@ -1696,8 +1695,8 @@ public final class OnePassport {
             this.walk = walk;
         }
 
-        void forget() {
-            rulesKnown = false;
+        void beginFamily() {
+            rules.learn(family, true);
             graphBuilt = false;
             soonestFrom = NONE;
             stateCount = NONE;
@@ -1715,17 +1714,8 @@ public final class OnePassport {
             safest.ready = false;
         }
 
-        Rules rulesNow() {
-            if (!rulesKnown) {
-                rules.learn(family, true);
-                rulesKnown = true;
-            }
-            return rules;
-        }
-
         int countOptions() {
-            Rules now = rulesNow();
-            return now.list(now.stateOf(walk));
+            return rules.list(rules.stateOf(walk));
         }
 
         int option(int i) {
@@ -1734,12 +1724,11 @@ public final class OnePassport {
         }
 
         private int here() {
-            Rules now = rulesNow();
             if (!graphBuilt) {
-                graph.build(now);
+                graph.build(rules);
                 graphBuilt = true;
             }
-            return graph.find(now.stateOf(walk));
+            return graph.find(rules.stateOf(walk));
         }
 
         private void prepare(Measure measure) {
