@@ -138,6 +138,13 @@ public final class PromiseTests {
         fault("  person like 1 nose 1;", 1, 2);
         fault("post strict 1 keen 1 looks 1;", 1, 0);
         fault("families loaf 3;", 1, 0);
+        fault("xamily loaf 3;", 1, 0);
+        fault("family 3;", 1, 7);
+        fault("family loaf;", 1, 11);
+        fault("family loaf 3;qerson like 1 nose 1;", 1, 14);
+        fault("family loaf 3;person 1 nose 1;", 1, 21);
+        fault("family loaf 3;person like 1 1;", 1, 28);
+        fault("family loaf 3;post strict 1 1 looks 1;", 1, 28);
         fault("famil loaf 3;", 1, 0);
         fault("family loaf 0;", 2, 12);
         fault("family loaf 00099;", 2, 12);
@@ -345,14 +352,18 @@ public final class PromiseTests {
             OnePassport x = Tell.told("family loaf 1;post strict 0 keen 9 looks 0;post strict 0 keen 9 looks " + looks
                 + ";person like 0 nose 0;person like 0 nose 0;");
             due("no stamps, looks " + looks, x.why(0, NONE, 1), 0);
+            due("no stamps, acts, looks " + looks, x.acts(), 5);
             x.cross(0, NONE, 0);
             due("over, and back, looks " + looks, x.why(0, NONE, 1), 0);
             x.loaf();
             due("over, over, looks " + looks, x.why(1, NONE, 1), due[looks][0]);
+            due("over, over, acts, looks " + looks, x.acts(), due[looks][0] == 0 ? 3 : 2);
             x.cross(1, NONE, 0);
             due("over, over, back, looks " + looks, x.why(1, NONE, 1), due[looks][1]);
+            due("over, over, back, acts, looks " + looks, x.acts(), due[looks][1] == 0 ? 5 : 3);
             x.cross(1, NONE, 0);
             due("over, over, back, over, looks " + looks, x.why(1, NONE, 1), due[looks][2]);
+            due("over, over, back, over, acts, looks " + looks, x.acts(), due[looks][2] == 0 ? 3 : 2);
             x.cross(1, NONE, 0);
             due("over, over, back, over, back, looks " + looks, x.why(1, NONE, 1), 0);
         }
@@ -457,6 +468,7 @@ public final class PromiseTests {
         due("it can't come", no.surely(0), NONE);
         due("no family", empty.surely(0), -2);
         promise = 25;
+        due("slowly() as the first", Tell.told(A).slowly(), 5);
         due("slowly()", y.slowly(), 6);
         due("it can't come", no.slowly(), NONE);
         due("no family", empty.slowly(), -2);
@@ -467,6 +479,7 @@ public final class PromiseTests {
         due("no family", empty.crossings(), -2);
         due("now", Tell.told("family loaf 4;").crossings(), 0);
         promise = 27;
+        due("moves() as the first", Tell.told(A).moves(), 3);
         due("moves()", x.moves(), 3);
         due("it can't come", no.moves(), NONE);
         due("no family", empty.moves(), -2);
@@ -522,6 +535,24 @@ public final class PromiseTests {
         due("mildly, days", y.slowly(), 6);
         promise = 26;
         due("strictly, crossings", y.crossings(), 2);
+        fastOrLean();
+    }
+
+    /** Two crossings with the passport sent take eleven days, four without take four. */
+    private static void fastOrLean() {
+        OnePassport x = Tell.told("family loaf 9;post strict 73 keen 2 looks 2;post strict 28 keen 1 looks 0;"
+            + "person like 54 nose 2;person like 9 nose 5 child stays;person like 72 nose 0 stays;person like 10 nose 0 stays;");
+        x.cross(2, NONE, 1);
+        x.loaf();
+        promise = 21;
+        due("without a loaf", x.days(), 4);
+        promise = 22;
+        int[] plan = {103, 102, 0, 3, NONE};
+        for (int i = 0; i < 5; i++) due("without a loaf(" + i + ")", x.plan(i), plan[i]);
+        promise = 26;
+        due("with a loaf", x.crossings(), 2);
+        promise = 27;
+        due("with a loaf", x.moves(), 3);
     }
 
     private static void chances() {
@@ -624,6 +655,13 @@ public final class PromiseTests {
         home.cross(0, 1, 0);
         home.cross(0, NONE, 0);
         due("over for the child", home.worst(), 1);
+        OnePassport y = Tell.told("family loaf 6;post strict 37 keen 0 looks 0;post strict 17 keen 2 looks 3;"
+            + "person like 4 nose 5 child stays;person like 67 nose 8;person like 89 nose 9 stays;person like 37 nose 9;");
+        for (int act : new int[] {12, 2, 2, 12, 200, 200, 113, 200}) {
+            if (act == 200) y.loaf();
+            else y.cross(act % 10, act / 10 % 10 - 1, act / 100);
+        }
+        due("two, three, two, three, one, none: the first three", y.worst(), 1);
         due("no row", Tell.told(STRANGERS).worst(), NONE);
         due("no family", new OnePassport().worst(), -2);
     }
@@ -816,6 +854,8 @@ public final class PromiseTests {
         promise = 47;
         due("the first of several", x.whom(10), 0);
         due("whom(50)", x.whom(50), 1);
+        due("whom(100)", x.whom(100), 1);
+        due("by one alone", x.whom(1), 0);
         due("nobody", x.whom(0), NONE);
         due("101", x.whom(101), -2);
         due("-1", x.whom(-1), -2);
@@ -829,6 +869,7 @@ public final class PromiseTests {
         due("post 1", no.blur(1), -2);
         due("post -1", no.blur(-1), -2);
         due("no family", new OnePassport().blur(0), -2);
+        due("noses 0 and 9", Tell.told(STRANGERS.replace("nose 1", "nose 0").replace("nose 5", "nose 9")).blur(0), 9);
         no.cross(0, NONE, 0);
         due("from now on", no.blur(0), 4);
         no.stay(1, 1);
@@ -977,16 +1018,44 @@ public final class PromiseTests {
         due("back(0) once more", x.back(0), 0);
         due("acts once more", x.act(0), 30);
         due("like once more", x.person(1, 0), 60);
+        due("days once more", x.now(2), 1);
+        due("the passport once more", x.now(1), 1);
+        due("stamps once more", x.now(3), 1);
+        due("the post remembers once more", x.post(0, 3), 0);
         due("back(2)", x.back(2), 0);
         due("acts of 2", x.count(6), 2);
         due("stays of 2", x.person(0, 3), 1);
         due("it has nothing", x.back(1), -6);
+        imagesOfStamps();
         promise = 56;
         OnePassport none = new OnePassport();
         due("without a family", none.image(1), 0);
         Tell.family(none, A);
         due("back to none", none.back(1), 0);
         due("none", none.now(0), -2);
+    }
+
+    private static void imagesOfStamps() {
+        OnePassport x = Tell.told("family loaf 1;post strict 0 keen 3 looks 0;post strict 0 keen 9 looks 3;"
+            + "person like 0 nose 0;person like 0 nose 5;person like 0 nose 2;");
+        x.cross(0, NONE, 1);
+        x.loaf();
+        x.cross(2, NONE, 0);
+        x.image(1);
+        x.anew();
+        x.cross(1, NONE, 0);
+        x.back(1);
+        due("stamp(0)", x.stamp(0), 10);
+        due("stamp(1)", x.stamp(1), 0);
+        due("lies", x.lies(), 1);
+        due("the first remembers", x.post(0, 3), 2);
+        due("the second remembers", x.post(1, 3), 0);
+        due("two alike are seen", x.why(0, NONE, 1), 5);
+        x.loaf();
+        due("noses", x.why(1, NONE, 0), 0);
+        due("may(0)", x.may(0), 1);
+        due("undo", x.undo(), 3);
+        due("who is over", x.now(0), 5);
     }
 
     private static void slots() {

@@ -180,7 +180,7 @@ public final class RandomRuns {
             }
             case 21: return is("count(" + i + ")", x.count(i), o.count(i));
             case 22: return is("image(" + k + ")", x.image(k), o.image(k));
-            case 23: return r.nextInt(3) > 0 || is("back(" + k + ")", x.back(k), o.back(k));
+            case 23: return is("back(" + k + ")", x.back(k), o.back(k)) && stampsAreTheSame();
             case 24: return is("judge(" + s + ")", x.judge(s), o.judge(s)) && is("there(" + s + ")", x.there(s), o.there(s))
                 && is("takes(" + s + ")", x.takes(s), o.takes(s));
             case 25: return is("dares(" + s + ")", x.dares(s), o.dares(s)) && is("lied(" + s + ")", x.lied(s), o.lied(s));
@@ -217,9 +217,16 @@ public final class RandomRuns {
         if (!o.told()) return true;
         java.util.List<Integer> can = Oracle.can(o.kin, o.now());
         int act = can.get(r.nextInt(can.size()));
-        if (act == 200) return is("loaf()", x.loaf(), o.loaf());
         int p = act % 10, c = act / 10 % 10 - 1, q = act / 100;
-        return is("cross(" + p + ", " + c + ", " + q + ")", x.cross(p, c, q), o.cross(p, c, q));
+        boolean same = act == 200 ? is("loaf()", x.loaf(), o.loaf())
+            : is("cross(" + p + ", " + c + ", " + q + ")", x.cross(p, c, q), o.cross(p, c, q));
+        return same && is("acts()", x.acts(), o.acts());
+    }
+
+    private boolean stampsAreTheSame() {
+        return is("now(3)", x.now(3), o.now(3)) && is("stamp(0)", x.stamp(0), o.stamp(0)) && is("lies()", x.lies(), o.lies())
+            && is("post(0, 3)", x.post(0, 3), o.post(0, 3)) && is("post(1, 3)", x.post(1, 3), o.post(1, 3))
+            && is("acts()", x.acts(), o.acts());
     }
 
     private boolean searched(int which, int p, int q, int i, int k, int n) {
@@ -235,8 +242,8 @@ public final class RandomRuns {
                 for (int j = -1; j < 20; j++) if (!is("surely(" + j + ")", x.surely(j), o.surely(j))) return false;
                 return true;
             }
-            case 3: return is("surest()", x.surest(), o.surest()) && is("slowly()", x.slowly(), o.slowly());
-            case 4: return is("crossings()", x.crossings(), o.crossings()) && is("moves()", x.moves(), o.moves());
+            case 3: return is("slowly()", x.slowly(), o.slowly()) && is("surest()", x.surest(), o.surest());
+            case 4: return is("moves()", x.moves(), o.moves()) && is("crossings()", x.crossings(), o.crossings());
             case 5: return is("chance(" + k + ")", x.chance(k), o.chance(k)) && is("chance(0)", x.chance(0), o.chance(0)) && is("chance(1)", x.chance(1), o.chance(1));
             case 6: return is("states()", x.states(), o.states());
             case 7: return o.kin.persons.size() > 3 || is("hopeful()", x.hopeful(), o.hopeful());
