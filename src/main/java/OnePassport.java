@@ -735,7 +735,8 @@ public final class OnePassport {
         private static final int WORD = 1;
         private static final int NUMBER = 2;
         private static final int SEMICOLON = 3;
-        private static final int NO_TOKEN = 4;
+        private static final int BLANK = 4;
+        private static final int NO_TOKEN = 5;
 
         private static final int MISPLACED = 1;
         private static final int OUT_OF_BOUNDS = 2;
@@ -748,7 +749,6 @@ public final class OnePassport {
         private int kind;
         private int start;
         private int stop;
-        private int value;
 
         void append(int word) {
             for (int shift = 24; shift >= 0 && length < MOST; shift -= 8) {
@@ -769,11 +769,12 @@ public final class OnePassport {
         }
 
         private void readLine(Family draft) {
-            if (draft.lines == 0) {
+            boolean first = draft.lines == 0;
+            if (first && isWord("family")) {
                 readFamily(draft);
-            } else if (isWord("person")) {
+            } else if (!first && isWord("person")) {
                 readPerson(draft);
-            } else if (isWord("post")) {
+            } else if (!first && isWord("post")) {
                 readPost(draft);
             } else {
                 fail(MISPLACED);
@@ -788,7 +789,7 @@ public final class OnePassport {
         }
 
         private void readFamily(Family draft) {
-            expect("family");
+            step();
             draft.loaf = numberBehind("loaf", 1, 9);
             if (fault == 0 && isWord("compare")) {
                 draft.compare = 1;
@@ -838,32 +839,34 @@ public final class OnePassport {
             draft.posts++;
         }
 
-        private void expect(String word) {
-            if (fault != 0) {
-                return;
-            }
-            if (isWord(word)) {
-                step();
-            } else {
-                fail(MISPLACED);
-            }
-        }
-
         private int numberBehind(String word, int least, int most) {
-            expect(word);
             if (fault != 0) {
                 return 0;
             }
+            if (!isWord(word)) {
+                fail(MISPLACED);
+                return 0;
+            }
+            step();
             if (kind != NUMBER) {
                 fail(MISPLACED);
                 return 0;
             }
-            if (value < least || value > most) {
+            int number = numberHere();
+            if (number < least || number > most) {
                 fail(OUT_OF_BOUNDS);
                 return 0;
             }
-            int number = value;
             step();
+            return number;
+        }
+
+        private int numberHere() {
+            int number = 0;
+            for (int at = start; at < stop; at++) {
+                // There may be hundreds of digits: all from 999 on are out of every bound alike.
+                number = Math.min(999, number * 10 + byteAt(at) - '0');
+            }
             return number;
         }
 
@@ -888,52 +891,41 @@ public final class OnePassport {
 
         private void step() {
             start = stop;
-            while (start < length && isBlank(byteAt(start))) {
+            while (start < length && kindAt(start) == BLANK) {
                 start++;
             }
-            if (start >= length) {
-                kind = THE_END;
-                stop = start;
-                return;
+            stop = start;
+            kind = kindAt(start);
+            if (kind != THE_END) {
+                stop++;
             }
-            int first = byteAt(start);
-            stop = start + 1;
-            if (isLetter(first)) {
-                kind = WORD;
-                while (stop < length && isLetter(byteAt(stop))) {
-                    stop++;
-                }
-            } else if (isDigit(first)) {
-                kind = NUMBER;
-                stepOverNumber(first);
-            } else {
-                kind = first == ';' ? SEMICOLON : NO_TOKEN;
+            boolean isLong = kind == WORD || kind == NUMBER;
+            while (isLong && stop < length && kindAt(stop) == kind) {
+                stop++;
             }
         }
 
-        private void stepOverNumber(int first) {
-            value = first - '0';
-            while (stop < length && isDigit(byteAt(stop))) {
-                // A number may have hundreds of digits: all from 999 on are out of every bound alike.
-                value = Math.min(999, value * 10 + byteAt(stop) - '0');
-                stop++;
+        private int kindAt(int at) {
+            if (at < 0 || at >= length || at >= MOST) {
+                return THE_END;
+            }
+            int b = bytes[at];
+            if (b >= 'a' && b <= 'z') {
+                return WORD;
+            }
+            if (b >= '0' && b <= '9') {
+                return NUMBER;
+            }
+            switch (b) {
+                case ';': return SEMICOLON;
+                case ' ': return BLANK;
+                case '\n': return BLANK;
+                default: return NO_TOKEN;
             }
         }
 
         private int byteAt(int at) {
             return at >= 0 && at < length && at < MOST ? bytes[at] & 255 : NONE;
-        }
-
-        private static boolean isBlank(int b) {
-            return b == ' ' || b == '\n';
-        }
-
-        private static boolean isLetter(int b) {
-            return b >= 'a' && b <= 'z';
-        }
-
-        private static boolean isDigit(int b) {
-            return b >= '0' && b <= '9';
         }
     }
 
@@ -1229,7 +1221,9 @@ public final class OnePassport {
         private final int[] behind = new int[MOST_POSTS * MEMORIES];
         private final int[] kept = new int[MOST_POSTS * MEMORIES];
         private final int[] trails = new int[TRAILS];
-        private final int[] looks = new int[MOST_POSTS];
+        // By a trail twice and the stamp that comes: the trail then, and whether a post lets it come.
+        private final int[] nextTrails = new int[2 * TRAILS];
+        private final boolean[] lets = new boolean[MOST_POSTS * 2 * TRAILS];
         private int everyone;
         private int children;
         private int persons;
@@ -1287,8 +1281,7 @@ public final class OnePassport {
             Arrays.fill(kept, 0);
             int mostLooks = 0;
             for (int post = 0; post < posts; post++) {
-                looks[post] = family.looks[post];
-                mostLooks = Math.max(mostLooks, looks[post]);
+                mostLooks = Math.max(mostLooks, family.looks[post]);
                 for (int memory = 0; memory <= persons; memory++) {
                     behind[post * MEMORIES + memory] = family.adultsBehind(memory - 1, post);
                     kept[post * MEMORIES + memory] = merging ? firstAlike(post, memory) : memory;
@@ -1296,6 +1289,19 @@ public final class OnePassport {
             }
             for (int trail = 0; trail < TRAILS; trail++) {
                 trails[trail] = merging ? mergedTrail(trail, mostLooks) : trail;
+            }
+            learnStamps(family);
+        }
+
+        private void learnStamps(Family family) {
+            for (int trail = NO_TRAIL; trail < TRAILS; trail++) {
+                for (int stamp = 0; stamp < 2; stamp++) {
+                    int turn = 2 * trail + stamp;
+                    nextTrails[turn] = trails[longer(trail, stamp)];
+                    for (int post = 0; post < posts; post++) {
+                        lets[post * 2 * TRAILS + turn] = fits(trail, stamp, family.looks[post]);
+                    }
+                }
             }
         }
 
@@ -1310,10 +1316,6 @@ public final class OnePassport {
 
         static int overIn(int state) {
             return state & (SIDE - 1);
-        }
-
-        static int trailIn(int state) {
-            return (state >> TRAIL) & (TRAILS - 1);
         }
 
         static int beginning() {
@@ -1332,14 +1334,39 @@ public final class OnePassport {
             int first = kept[(state >> FIRST_MEMORY) & 7];
             int second = kept[MEMORIES + ((state >> SECOND_MEMORY) & 7)];
             return (state & (2 * SIDE - 1)) | (first << FIRST_MEMORY) | (second << SECOND_MEMORY)
-                    | (trails[trailIn(state)] << TRAIL);
+                    | (trails[(state >> TRAIL) & (TRAILS - 1)] << TRAIL);
         }
 
         /** Lists the acts that can be in a state, the least first, and the states behind them: how many. */
         int list(int state) {
+            int side = (state / SIDE) & 1;
+            int over = state & (SIDE - 1);
+            int near = side == 1 ? over : everyone & ~over;
+            int turn = 2 * ((state >> TRAIL) & (TRAILS - 1)) + side;
+            int first = (state >> FIRST_MEMORY) & 7;
+            int second = (state >> SECOND_MEMORY) & 7;
             int n = 0;
             for (int post = 0; post < posts; post++) {
-                n = listCrossings(state, post, n);
+                int can = near & behind[post * MEMORIES + (post == 0 ? first : second)];
+                boolean firstToo = compare || post == 0;
+                boolean secondToo = compare || post == 1;
+                boolean isOpen = can != 0 && lets[post * 2 * TRAILS + turn];
+                for (int child = NONE; child < persons && isOpen; child++) {
+                    int with = child == NONE ? 0 : 1 << child;
+                    if ((near & children & with) != with) {
+                        continue;
+                    }
+                    for (int person = 0; person < persons && n < MOST_OPTIONS; person++) {
+                        if (((can >> person) & 1) == 1) {
+                            acts[n] = Family.actOf(person, child, post);
+                            states[n] = (over ^ with ^ (1 << person)) | ((1 - side) * SIDE)
+                                    | ((firstToo ? kept[person + 1] : first) << FIRST_MEMORY)
+                                    | ((secondToo ? kept[MEMORIES + person + 1] : second) << SECOND_MEMORY)
+                                    | (nextTrails[turn] << TRAIL);
+                            n++;
+                        }
+                    }
+                }
             }
             if (n < MOST_OPTIONS) {
                 acts[n] = LOAF;
@@ -1347,40 +1374,6 @@ public final class OnePassport {
                 n++;
             }
             return n;
-        }
-
-        private int listCrossings(int state, int post, int from) {
-            int side = (state / SIDE) & 1;
-            int over = overIn(state);
-            int near = side == 1 ? over : everyone & ~over;
-            int memory = (state >> (post == 0 ? FIRST_MEMORY : SECOND_MEMORY)) & 7;
-            int can = behind[post * MEMORIES + memory] & near;
-            int trail = trailIn(state);
-            if (can == 0 || !fits(trail, side, looks[post])) {
-                return from;
-            }
-            int rest = ((1 - side) * SIDE) | (trails[longer(trail, side)] << TRAIL);
-            int n = from;
-            for (int child = NONE; child < persons; child++) {
-                int with = child == NONE ? 0 : 1 << child;
-                if ((near & children & with) != with) {
-                    continue;
-                }
-                for (int person = 0; person < persons && n < MOST_OPTIONS; person++) {
-                    if (((can >> person) & 1) == 1) {
-                        acts[n] = Family.actOf(person, child, post);
-                        states[n] = (over ^ with ^ (1 << person)) | rest | memoriesBehind(state, person, post);
-                        n++;
-                    }
-                }
-            }
-            return n;
-        }
-
-        private int memoriesBehind(int state, int person, int post) {
-            int first = compare || post == 0 ? kept[person + 1] : (state >> FIRST_MEMORY) & 7;
-            int second = compare || post == 1 ? kept[MEMORIES + person + 1] : (state >> SECOND_MEMORY) & 7;
-            return (first << FIRST_MEMORY) | (second << SECOND_MEMORY);
         }
     }
 
