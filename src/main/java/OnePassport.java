@@ -501,7 +501,7 @@ public final class OnePassport {
         return 0;
     }
 
-    /** All rows that give a slot's stamps; those alone in which a person has the passport at a place, if one is told. */
+    /** All rows that give a slot's stamps; with a place, those alone in which a person has the passport there. */
     private void enterStamps(int slot, int place, int person) {
         ledger.open();
         for (int i = 0; i < slots.size[slot]; i++) {
@@ -1898,7 +1898,8 @@ public final class OnePassport {
                     int n = rules.list(place | side * Rules.SIDE | (trail << Rules.TRAIL));
                     for (int k = 0; k < n; k++) {
                         int act = rules.acts[k];
-                        if (act != LOAF && Family.postOf(act) == stamp / 10 && ((only >> Family.personOf(act)) & 1) == 1) {
+                        boolean isIn = act != LOAF && ((only >> Family.personOf(act)) & 1) == 1;
+                        if (isIn && Family.postOf(act) == stamp / 10) {
                             lead(place, rules.states[k] & (PLACES - 1) & ~Rules.SIDE, family.riskOfAct(act));
                         }
                     }

@@ -706,6 +706,11 @@ public final class PromiseTests {
         }
         Tell.lay(x, 0, 2, 40);
         due("no act behind one that can't be", x.judge(0), -2);
+        for (long bad : new long[] {1L << 32, -1L << 32, Long.MIN_VALUE, Long.MAX_VALUE}) {
+            x.row(0, 3, 1);
+            x.write(0, 0, bad);
+            due("no act " + bad, x.judge(0), -2);
+        }
         Tell.lay(x, 0);
         due("an empty row", x.judge(0), 0);
         int[] loaves = new int[60];
