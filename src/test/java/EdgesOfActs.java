@@ -497,12 +497,50 @@ public final class EdgesOfActs {
         x.loaf();
         x.cross(0, NONE, 1);
         Due.is("three and two here", x.acts(), 19);
+        rememberedByOne();
         Whole.staysWithoutFamily("acts", y -> Due.is("acts of none", y.acts(), -2));
         OnePassport forty = Whole.forty();
         int acts = forty.acts();
         forty.undo();
         forty.loaf();
         Due.is("behind forty as they can be", forty.acts(), acts);
+    }
+
+    /** Three strangers at two posts that let no stranger behind another: who crossed at one may be followed at the other alone. */
+    private static void rememberedByOne() {
+        String strangers = "family loaf 1;" + "post strict 0 keen 0 looks 0;".repeat(2) + "person like 0 nose 0;person like 0 nose 4;"
+            + "person like 0 nose 8;";
+        for (int post = 0; post < 2; post++) {
+            for (int p = 0; p < 3; p++) {
+                OnePassport x = Tell.told(strangers);
+                x.cross(p, NONE, post);
+                x.loaf();
+                Due.is(p + " at " + post, x.acts(), 3);
+                Due.is("the first who may", x.may(0), 100 * (1 - post) + (p == 0 ? 1 : 0));
+                Due.is("the second who may", x.may(1), 100 * (1 - post) + (p == 2 ? 1 : 2));
+                Due.is("and the loaf", x.may(2), 200);
+                x.loaf();
+                Due.is("back at either", x.acts(), 3);
+                x.loaf();
+                int other = p == 0 ? 1 : 0;
+                x.cross(other, NONE, 1 - post);
+                x.loaf();
+                Due.is("the third at none", x.acts(), 1);
+                Due.promise(33);
+                Due.is("the third never", x.never(), 7 & ~(1 << p | 1 << other));
+                Due.promise(21);
+                Due.is("the end never", x.days(), NONE);
+                x.stay(3 - p - other, 1);
+                Due.is("the end without him", x.days(), 0);
+                Due.promise(19);
+            }
+        }
+        OnePassport compare = Tell.told(strangers.replace("loaf 1", "loaf 1 compare"));
+        compare.cross(1, NONE, 1);
+        compare.loaf();
+        Due.is("by compare at none", compare.acts(), 1);
+        compare.loaf();
+        Due.is("he may at both", compare.acts(), 3);
     }
 
     private static void may() {

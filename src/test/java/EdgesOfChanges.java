@@ -36,6 +36,7 @@ public final class EdgesOfChanges {
         count();
         imagesThereAreNot();
         whatAnImageKeeps();
+        searchedAheadOfBack();
         imagesOfBounds();
         Due.end();
     }
@@ -521,6 +522,32 @@ public final class EdgesOfChanges {
                 if (other != k) Due.is("the other " + other, x.back(other), has[other]);
             }
         }
+    }
+
+    /** What was searched ahead of back() tells nothing of what is then. */
+    private static void searchedAheadOfBack() {
+        Due.promise(57);
+        OnePassport x = Tell.told("family loaf 1;post strict 0 keen 9 looks 3;post strict 5 keen 1 looks 0;" + ADULT + "person like 0 nose 1;" + CHILD);
+        x.cross(0, 2, 0);
+        x.cross(0, NONE, 1);
+        x.loaf();
+        x.cross(2, NONE, 0);
+        String first = Whole.searches(x);
+        x.image(0);
+        Tell.family(x, "family loaf 1 compare;" + OPEN + OPEN + "person like 0 nose 5 stays;" + ADULT + CHILD + ADULT);
+        x.cross(3, NONE, 1);
+        x.loaf();
+        x.cross(1, NONE, 1);
+        x.cross(1, NONE, 0);
+        String second = Whole.searches(x);
+        x.image(2);
+        x.back(0);
+        Due.same("the first", Whole.searches(x), first);
+        x.back(2);
+        Due.same("the second", Whole.searches(x), second);
+        x.anew();
+        x.back(0);
+        Due.same("the first again", Whole.searches(x), first);
     }
 
     private static void imagesOfBounds() {

@@ -316,6 +316,8 @@ public final class EdgesOfRows {
         states("family loaf 1;post strict 0 keen 9 looks 0;" + ADULT + ADULT, 46, 46);
         states("family loaf 1;post strict 0 keen 9 looks 1;" + ADULT + ADULT, 18, 0);
         states("family loaf 1;post strict 0 keen 0 looks 0;" + ADULT + "person like 0 nose 1;", 18, 0);
+        // strangers at two posts: 49, less three each where both posts remember the same one
+        states("family loaf 1;" + "post strict 0 keen 0 looks 0;".repeat(2) + ADULT + "person like 0 nose 1;", 98, 86);
         // one at two posts: which of them remember him
         states("family loaf 1;" + OPEN + OPEN + ADULT, 24, 24);
         states("family loaf 1 compare;" + OPEN + OPEN + ADULT, 10, 10);

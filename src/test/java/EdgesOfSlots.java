@@ -32,6 +32,8 @@ public final class EdgesOfSlots {
         emptyStamps();
         placesOfStamps();
         countedRows();
+        stampsThatAreSeen();
+        oneStamp();
         refusedStamps();
         boundsOfRow();
         inPlaceOfAnother();
@@ -391,6 +393,53 @@ public final class EdgesOfSlots {
         }
         Tell.lay(six, 0, 0, 10, 0, 10, 0, 10, 11, 1, 11, 1, 11, 1);
         four("six over and back", six, 0, 518400, 63, 0, 1200);
+    }
+
+    /** Stamps at a post that looks at 0 .. 3 of them, behind others made where nobody looks: as many rows as there, or none. */
+    private static void stampsThatAreSeen() {
+        String[] rows = {"", "o", "oo", "ob", "ooo", "ooob", "oobo", "ooobb", "oboo", "oobob", "oobbo", "oooobbb", "ooobobo"};
+        int[][] forbid = {{0, 14, 14, 0, 14, 8, 14, 12, 14, 0, 14, 12, 14}, {0, 0, 12, 14, 12, 14, 0, 14, 12, 14, 8, 14, 0}};
+        for (int looks = 0; looks < 4; looks++) {
+            OnePassport x = Tell.told("family loaf 1;post strict 30 keen 9 looks 0;post strict 10 keen 9 looks " + looks + ";"
+                + ADULT.repeat(5));
+            for (int i = 0; i < rows.length; i++) {
+                for (int side = 0; side < 2; side++) {
+                    int n = rows[i].length();
+                    int[] row = new int[n + 1];
+                    for (int k = 0; k < n; k++) row[k] = rows[i].charAt(k) == 'o' ? 0 : 1;
+                    row[n] = side;
+                    Tell.lay(x, 0, row);
+                    long free = judged(41, x, 0);
+                    row[n] = 10 + side;
+                    Tell.lay(x, 1, row);
+                    boolean alike = (forbid[side][i] >> looks & 1) == 1;
+                    String what = "looks " + looks + " behind " + rows[i] + ", " + side;
+                    Due.is(what, x.stamped(1), alike ? 0 : free);
+                    Due.promise(42);
+                    Due.is(what, x.had(1, n), alike || free == 0 ? 0 : 31);
+                    Due.promise(44);
+                    Due.is(what, x.dared(1), alike || free == 0 ? NONE : 30 * n + 10);
+                    Due.promise(43);
+                    Due.is(what, x.sure(1, 1) == 0 ? 0 : 1, alike || free == 0 || x.sure(0, 1) == 0 ? 0 : 1);
+                }
+            }
+        }
+    }
+
+    /** One stamp of several who dare more or less, at each post; and each question as the first of all. */
+    private static void oneStamp() {
+        for (int post = 0; post < 2; post++) {
+            for (int k = 41; k <= 44; k++) {
+                OnePassport x = Tell.told(FIVE);
+                Tell.lay(x, 0, 10 * post);
+                long[] due = {9, 19, 31, 10 + 10 * post};
+                Due.is("one over at " + post, judged(k, x, 0), due[k - 41]);
+                x.grow(0, 0);
+                if (k == 44) Due.is("then another dares least", judged(k, x, 0), 25 + 25 * post);
+                x.row(0, 0, 0);
+                if (k == 44) Due.is("then none", judged(k, x, 0), 0);
+            }
+        }
     }
 
     private static void refusedStamps() {

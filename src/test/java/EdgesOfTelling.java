@@ -17,6 +17,7 @@ public final class EdgesOfTelling {
         boundsOfLines();
         marks();
         emptyFamily();
+        nothingBehindAFamily();
         faultsLeaveAll();
         inPlaceOfAnother();
         faultAsked();
@@ -297,6 +298,13 @@ public final class EdgesOfTelling {
         }
     }
 
+    private static void nothingBehindAFamily() {
+        Due.promise(4);
+        OnePassport x = Tell.told("family loaf 8 compare;" + PERSON.replace(";", " child stays;") + POST);
+        Due.is("nothing", x.family(), 0);
+        for (int what = 0; what < 10; what++) Due.is("count(" + what + ") then", x.count(what), 0);
+    }
+
     /** -4: the tape is empty, all else stays. */
     private static void faultsLeaveAll() {
         Due.promise(4);
@@ -327,6 +335,7 @@ public final class EdgesOfTelling {
         Whole.family(Tell.told(Whole.KIN), fresh);
         Whole.family(x, again);
         Due.same("as one new", again.toString(), fresh.toString());
+        searchedAhead();
         Due.is("all here", x.now(0), 0);
         Due.is("the passport too", x.now(1), 0);
         Due.is("no days", x.now(2), 0);
@@ -334,6 +343,18 @@ public final class EdgesOfTelling {
         Due.is("slots stay", x.judge(0), 3);
         Due.is("images stay", x.back(0), 0);
         Due.is("as it was", x.person(0, 0), 40);
+    }
+
+    /** What was searched of one family tells nothing of the next. */
+    private static void searchedAhead() {
+        String[] families = {Whole.KIN, LOAF + PERSON + POST, LOAF, Whole.KIN.replace("keen 2", "keen 9").replace("stays", ""),
+            Whole.KIN.replace("family loaf 7", "family loaf 2 compare"), LOAF + POST + POST, LOAF + PERSON.repeat(3), Whole.KIN};
+        for (int i = 1; i < families.length; i++) {
+            OnePassport x = Tell.told(families[i - 1]);
+            Whole.searches(x);
+            Tell.family(x, families[i]);
+            Due.same("searched behind another", Whole.searches(x), Whole.searches(Tell.told(families[i])));
+        }
     }
 
     private static void faultAsked() {
@@ -476,6 +497,11 @@ public final class EdgesOfTelling {
         fault(LOAF + "per son like 1 nose 1;", 1, 14);
         fault("family loaf 1 0;", 1, 14);
         fault("fam\nily loaf 1;", 1, 0);
+        for (char letter = 'a'; letter <= 'z'; letter++) {
+            fault("family" + letter + " loaf 1;", 1, 0);
+            fault(letter + "family loaf 1;", 1, 0);
+            fault("family loaf 1 " + letter + "compare;", 1, 14);
+        }
         // none of the tokens
         for (String sign : new String[] {"\t", "\r", "\0", "A", "Z", "`", "{", "/", ":", ",", "-", "\u0080", "\u00a0", "\u00ff", "\u007f"}) {
             fault(LOAF + sign, 1, 14);
@@ -483,6 +509,23 @@ public final class EdgesOfTelling {
             fault("family loaf 1" + sign + ";", 1, 13);
             fault(sign + LOAF, 1, 0);
         }
+        // parts that are missing, or in another order
+        fault("family compare;", 1, 7);
+        fault("family;", 1, 6);
+        fault("family compare loaf 1;", 1, 7);
+        fault(LOAF + "person;", 1, 20);
+        fault(LOAF + "person nose 1;", 1, 21);
+        fault(LOAF + "person like nose 1;", 1, 26);
+        fault(LOAF + "person like 1;", 1, 27);
+        fault(LOAF + "person like 1 child;", 1, 28);
+        fault(LOAF + "person like 1 nose;", 1, 32);
+        fault(LOAF + "person child like 1 nose 1;", 1, 21);
+        fault(LOAF + "post;", 1, 18);
+        fault(LOAF + "post keen 1 looks 1;", 1, 19);
+        fault(LOAF + "post strict 1 looks 1;", 1, 28);
+        fault(LOAF + "post strict 1 keen 1;", 1, 34);
+        fault(LOAF + "post looks 1 keen 1 strict 1;", 1, 19);
+        fault(LOAF + "post like 1 nose 1;", 1, 19);
         Due.promise(4);
         OnePassport x = new OnePassport();
         Due.is("without blanks", Tell.family(x, "family loaf1compare;person like1nose2child stays;post strict3keen4looks2;"), 3);

@@ -123,6 +123,13 @@ final class Whole {
         s.append(" lies ").append(x.lies()).append(" can ").append(x.acts()).append(" days ").append(x.days());
     }
 
+    static String searches(OnePassport x) {
+        StringBuilder s = new StringBuilder();
+        family(x, s);
+        searched(x, s);
+        return s.toString();
+    }
+
     private static void searched(OnePassport x, StringBuilder s) {
         s.append("\nplan");
         for (int i = 0; i < 4; i++) s.append(' ').append(x.plan(i)).append(' ').append(x.surely(i)).append(' ').append(x.may(i));
