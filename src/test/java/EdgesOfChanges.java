@@ -265,6 +265,24 @@ public final class EdgesOfChanges {
             Due.is("nothing happens", x.now(0), 0);
             Due.is("no acts", x.count(6), 0);
         }
+        // one brings five children: who is caught stays where he was, and the child with him
+        OnePassport flock = Tell.told("family loaf 9;" + OPEN + ADULT + CHILD.repeat(5));
+        caught(flock, 38, 1, 2, 2);
+        caught(flock, 39, 1, 0, 0);
+        caught(flock, 14, 1, 2, 2);
+        caught(flock, 10, 1999999999, 3, 7);
+        caught(flock, 33, 1999999999, 3, 7);
+        caught(flock, 34, 1999999999, 0, 0);
+        caught(flock, 1, 1000000000, 1, 3);
+        caught(flock, 36, 1000000000, 1, 3);
+        caught(flock, 37, 1000000000, 0, 0);
+        caught(flock, 0, 1000000000, NONE, 63);
+    }
+
+    private static void caught(OnePassport x, int risk, int seed, int at, int over) {
+        x.grow(0, 100 - risk);
+        Due.is("risk " + risk + ", seed " + seed, x.drawn(seed, 0), at);
+        Due.is("over, risk " + risk + ", seed " + seed, x.drawn(seed, 1), over);
     }
 
     private static void drawnOfNone() {
