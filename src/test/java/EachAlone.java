@@ -42,12 +42,15 @@ public final class EachAlone {
             case 5: x.anew(); break;
             case 6: x.back(0); break;
             case 7: x.back(1); break;
+            case 8: Tell.family(x, "family loaf 1;person like 101"); break;
+            case 9: x.image(1); break;
+            case 10: Tell.family(x, "family loaf 4;person like 5 nose 5;post strict 99 keen 0 looks 3;"); x.back(1); break;
             default: break;
         }
     }
 
     public static void main(String[] args) {
-        for (int how = 0; how <= 8; how++) {
+        for (int how = 0; how <= 11; how++) {
             OnePassport asked = Whole.full();
             // asked ahead of the change too: nothing that was found then may tell what is now
             askAll(asked);

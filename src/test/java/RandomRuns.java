@@ -8,7 +8,7 @@ public final class RandomRuns {
 
     public static void main(String[] args) {
         int from = args.length > 0 ? Integer.parseInt(args[0]) : 0;
-        int runs = args.length > 1 ? Integer.parseInt(args[1]) : 320;
+        int runs = args.length > 1 ? Integer.parseInt(args[1]) : 240;
         for (int run = from; run < from + runs && wrong < 20; run++) new RandomRuns(run).go();
         System.out.println(told + " calls compared, " + wrong + " wrong");
         if (wrong != 0) System.exit(1);
