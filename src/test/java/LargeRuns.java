@@ -45,7 +45,16 @@ public final class LargeRuns {
         System.out.println("run " + run + ": " + s.text() + " behind " + acts + ": " + what + " answered " + got + ", due is " + due);
     }
 
+    /** The family of the most states that differ, of 20,000 drawn: six who cross, a post that looks far, one that doesn't. */
+    private static PlainStates widest() {
+        int[] nose = {2, 1, 9, 7, 4, 5};
+        int[][] person = new int[6][];
+        for (int p = 0; p < 6; p++) person[p] = new int[] {15 * p, nose[p], 0, p == 3 ? 1 : 0};
+        return new PlainStates(2, false, person, new int[][] {{60, 3, 3}, {90, 5, 0}});
+    }
+
     private PlainStates draw() {
+        if (run == 0) return widest();
         int[][] person = new int[run % 3 == 0 ? 6 : run % 3 == 1 ? 5 : 3 + r.nextInt(4)][];
         int spread = 1 + r.nextInt(10);
         int children = r.nextInt(4);
